@@ -8,7 +8,6 @@ public final class VectorsTest {
         selfTestOfTheRfc();
         eachLengthOfDigestAndKey();
         eachLengthOfMessage();
-        theLongestRun();
         Checks.end();
     }
 
@@ -62,19 +61,6 @@ public final class VectorsTest {
         }
         Checks.due("each length of message", HexFormat.of().formatHex(digests.digest()),
                 "7e1f3c0afd4740c918020602264095b03be4f67e868cba011c61af2972f93954");
-    }
-
-    // hashlib: five million bytes, in 500 of the 512 calls of an object.
-    private static void theLongestRun() {
-        KeyedDigest x = Checks.open(1);
-        x.start(32, 0);
-        for (int i = 0; i < 500; i++) {
-            x.fill(171, 10000);
-        }
-        Checks.due("the longest run: length", x.length(), 5000000);
-        Checks.due("the longest run: finish", x.finish(), true);
-        Checks.due("the longest run: out(0)", x.out(0), 0x63);
-        Checks.due("the longest run: word(7)", x.word(7), 0x730EA0F7);
     }
 
     private static byte[] row(int n, int step, int first) {

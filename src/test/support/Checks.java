@@ -2,15 +2,20 @@
 final class Checks {
     private static int wrong = 0;
     private static int seen = 0;
+    private static String sentence = "";
 
     private Checks() {
+    }
+
+    /** Names the document's sentence that the answers from here on belong to. */
+    static void sentence(String words) {
+        sentence = "[" + words + "] ";
     }
 
     static void due(String call, long got, long want) {
         seen++;
         if (got != want) {
-            wrong++;
-            System.out.println(call + " answered " + got + ", due is " + want);
+            tell(call, Long.toString(got), Long.toString(want));
         }
     }
 
@@ -21,9 +26,13 @@ final class Checks {
     static void due(String call, String got, String want) {
         seen++;
         if (!got.equals(want)) {
-            wrong++;
-            System.out.println(call + " answered " + got + ", due is " + want);
+            tell(call, got, want);
         }
+    }
+
+    private static void tell(String call, String got, String want) {
+        wrong++;
+        System.out.println(sentence + call + " answered " + got + ", due is " + want);
     }
 
     static void end() {
@@ -47,9 +56,14 @@ final class Checks {
 
     /** Ready, and its key is 0, 1, 2 .. 31. */
     static KeyedDigest readyWithKey() {
+        return readyWithKeyFrom(0);
+    }
+
+    /** Ready, and its key is 32 numbers in their order, from the first one on. */
+    static KeyedDigest readyWithKeyFrom(int first) {
         KeyedDigest x = ready();
         for (int i = 0; i < 32; i++) {
-            due("setKeyByte(" + i + ", " + i + ")", x.setKeyByte(i, i), true);
+            due("setKeyByte(" + i + ", " + (first + i) + ")", x.setKeyByte(i, first + i), true);
         }
         return x;
     }
@@ -68,9 +82,17 @@ final class Checks {
     }
 
     static String words(KeyedDigest x) {
-        StringBuilder hex = new StringBuilder();
+        int[] h = new int[8];
         for (int i = 0; i < 8; i++) {
-            hex.append(i == 0 ? "" : " ").append(String.format("%08X", x.word(i)));
+            h[i] = x.word(i);
+        }
+        return words(h);
+    }
+
+    static String words(int[] h) {
+        StringBuilder hex = new StringBuilder();
+        for (int i = 0; i < h.length; i++) {
+            hex.append(i == 0 ? "" : " ").append(String.format("%08X", h[i]));
         }
         return hex.toString();
     }

@@ -105,6 +105,11 @@ final class Model {
         return message == null || i < 0 || i > 7 ? 0 : h()[i];
     }
 
+    /** All words of h, of a message that is open or finished. */
+    String words() {
+        return Checks.words(h());
+    }
+
     private boolean isOpen() {
         return message != null && !finished;
     }
