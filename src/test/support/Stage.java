@@ -1,4 +1,4 @@
-/** The stages of an object that the document tells apart; all but a new one have the key 1 .. 32. */
+/** The stages of an object that the document tells apart; all but NEW have the key 1 .. 32. */
 enum Stage {
     NEW, READY,
     OPEN_EMPTY, OPEN_KEY_WAITS, OPEN, OPEN_WITH_KEY, OPEN_FULL_BLOCK,
